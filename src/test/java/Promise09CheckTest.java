@@ -175,8 +175,9 @@ public final class Promise09CheckTest {
         for (int[] part : read) {
             rows.content(1, part[0], part[1]);
         }
-        EXPECT.faults("by the page's one before it", rows, Expect.row(10, 1, 43), Expect.row(10, 1, 61),
-                Expect.row(10, 1, 44));
+        int[][] due = {{10, 1, 43}, {10, 1, 61}, {10, 1, 44}};
+        EXPECT.faults("by the page's one before it", rows, due);
+        EXPECT.faults("nothing stays of the check before", rows, due);
 
         StructureRows other = new StructureRows();
         other.shows(0, 0);

@@ -50,6 +50,7 @@ public final class Promise13SpanTest {
         uneven("narrower", new int[][] {{12}, {11}});
         uneven("the last alone", new int[][] {{11}, {11}, {}});
         uneven("the first alone", new int[][] {{}, {11}});
+        uneven("two columns, then none", new int[][] {{12}, {}});
         uneven("a cell too many below a span", new int[][] {{21, 11}, {11, 11}});
         uneven("a span has ended", new int[][] {{21, 11}, {11}, {11}});
         // Two columns are asked for where only one is free.
