@@ -10,6 +10,23 @@ final class Expect {
     static final Class<? extends RuntimeException> OUT_OF_BOUNDS = IndexOutOfBoundsException.class;
 
     private int wrong = 0;
+    private String sentence = "";
+
+    /** One sentence of the document, told word for word, and the test that would fail if it did not hold. */
+    void sentence(String words, Runnable test) {
+        sentence = "\"" + words + "\": ";
+        try {
+            test.run();
+        } catch (RuntimeException thrown) {
+            complain("a call", "threw " + thrown + ", and nothing was to be thrown");
+        }
+        sentence = "";
+    }
+
+    /** The numbers next to a range on both its sides, and those that are farthest from it. */
+    static int[] outside(int first, int last) {
+        return new int[] {first - 1, last + 1, Integer.MIN_VALUE, Integer.MAX_VALUE};
+    }
 
     void is(String call, int got, int due) {
         if (got != due) {
@@ -104,7 +121,7 @@ final class Expect {
 
     void complain(String call, String what) {
         wrong++;
-        System.out.println(call + " " + what);
+        System.out.println(sentence + call + " " + what);
     }
 
     void end() {

@@ -1,8 +1,14 @@
-/** Each kind of fault, and all of them in their order. */
+/** Promise 9: each kind of fault, and all of them in their order. */
 public final class Promise09CheckTest {
     private static final Expect EXPECT = new Expect();
 
     public static void main(String[] args) {
+        EXPECT.sentence("All FAULTS are looked for", Promise09CheckTest::allKinds);
+        EXPECT.sentence("how many.", Promise09CheckTest::howMany);
+        EXPECT.end();
+    }
+
+    private static void allKinds() {
         withoutStandard();
         withoutLevel();
         leaps();
@@ -13,8 +19,24 @@ public final class Promise09CheckTest {
         untagged();
         readLate();
         allKindsInOrder();
+    }
+
+    private static void howMany() {
+        StructureRows none = new StructureRows();
+        EXPECT.is("none: check()", none.check(), 0);
+        EXPECT.is("none: check() again", none.check(), 0);
+        none.element(0, 3);
+        EXPECT.is("one: check()", none.check(), 1);
+        EXPECT.is("one: check() again", none.check(), 1);
+        none.content(1, 0, 0);
+        EXPECT.is("none any more: check()", none.check(), 0);
         mostFaults();
-        EXPECT.end();
+        // The faults of the latest check are the same behind one check more, where nothing came between.
+        Twin.unchanged(EXPECT, "check()", States::full, StructureRows::check);
+        Twin.unchanged(EXPECT, "check()", rows -> {
+            States.middle(rows);
+            rows.check();
+        }, StructureRows::check);
     }
 
     private static void withoutStandard() {

@@ -1,62 +1,110 @@
-/** Spans are had by any element, and count where it is a head or a cell of a row of a table. */
+/** Promise 13: spans are had by any element, and count where it is a head or a cell of a row of a table. */
 public final class Promise13SpanTest {
     private static final Expect EXPECT = new Expect();
 
     public static void main(String[] args) {
-        answers();
-        evenTables();
-        unevenTables();
-        whatCounts();
-        widestRow();
+        EXPECT.sentence("An element spans rows and columns (1 .. 8", Promise13SpanTest::leastAndMost);
+        EXPECT.sentence("ten times the rows, and the columns, as they were", Promise13SpanTest::asTheyWere);
+        EXPECT.sentence("they count where it is a head or a cell", Promise13SpanTest::whereTheyCount);
+        EXPECT.sentence("NoSuchElementException; IllegalArgumentException.", Promise13SpanTest::wrongInputs);
         EXPECT.end();
     }
 
-    private static void answers() {
+    private static void leastAndMost() {
+        evenTables();
+        unevenTables();
+        widestRow();
         StructureRows rows = new StructureRows();
-        rows.element(0, 3);
-        EXPECT.is("span(1, 8, 3)", rows.span(1, 8, 3), 11);
-        EXPECT.is("span(1, 2, 8)", rows.span(1, 2, 8), 83);
-        EXPECT.is("span(1, 1, 1)", rows.span(1, 1, 1), 28);
-        EXPECT.is("span(0, 4, 5)", rows.span(0, 4, 5), 11);
-        EXPECT.is("span(0, 4, 5) again", rows.span(0, 4, 5), 45);
-        for (int bad : new int[] {-1, 0, 9, Integer.MIN_VALUE, Integer.MAX_VALUE}) {
-            EXPECT.refuses("span(1, " + bad + ", 1)", Expect.BAD_ARGUMENT, () -> rows.span(1, bad, 1));
-            EXPECT.refuses("span(1, 1, " + bad + ")", Expect.BAD_ARGUMENT, () -> rows.span(1, 1, bad));
+        for (int down = 1; down <= 8; down++) {
+            for (int right = 1; right <= 8; right++) {
+                rows.span(0, down, right);
+                EXPECT.is("span(0, " + down + ", " + right + ")", rows.span(0, down, right), 10 * down + right);
+            }
         }
-        for (int bad : new int[] {-1, 2, 60, Integer.MIN_VALUE, Integer.MAX_VALUE}) {
+    }
+
+    private static void asTheyWere() {
+        StructureRows rows = new StructureRows();
+        States.fillElements(rows);
+        for (int element : new int[] {0, 1, 58, 59}) {
+            String span = "span(" + element;
+            EXPECT.is(span + ", 8, 3)", rows.span(element, 8, 3), 11);
+            EXPECT.is(span + ", 2, 8)", rows.span(element, 2, 8), 83);
+            EXPECT.is(span + ", 1, 1)", rows.span(element, 1, 1), 28);
+            EXPECT.is(span + ", 8, 8)", rows.span(element, 8, 8), 11);
+            EXPECT.is(span + ", 8, 8) again", rows.span(element, 8, 8), 88);
+        }
+        EXPECT.is("another element's are as at first", rows.span(2, 1, 1), 11);
+    }
+
+    private static void whereTheyCount() {
+        whatCounts();
+        for (int role = 1; role <= 12; role++) {
+            if (role != 8 && role != 9) {
+                StructureRows rows = new StructureRows();
+                int table = Tables.add(rows, 0, new int[] {11}, new int[] {11});
+                rows.span(rows.element(table + 1, role), 8, 8);
+                rows.span(rows.element(table, role), 8, 8);
+                rows.span(table, 8, 8);
+                rows.span(table + 1, 8, 8);
+                rows.span(0, 8, 8);
+                if (role != 7) {
+                    EXPECT.faultsOfKind("role " + role, rows, 5);
+                } else {
+                    EXPECT.faultsOfKind("one row more", rows, 5, Expect.row(table, 0));
+                }
+            }
+        }
+    }
+
+    private static void wrongInputs() {
+        StructureRows rows = new StructureRows();
+        rows.element(0, 9);
+        rows.span(1, 4, 5);
+        for (int bad : Expect.outside(1, 8)) {
+            for (int right : new int[] {1, 8}) {
+                EXPECT.refuses("span(1, " + bad + ", " + right + ")", Expect.BAD_ARGUMENT,
+                        () -> rows.span(1, bad, right));
+                EXPECT.refuses("span(1, " + right + ", " + bad + ")", Expect.BAD_ARGUMENT,
+                        () -> rows.span(1, right, bad));
+            }
+            EXPECT.refuses("span(1, " + bad + ", " + bad + ")", Expect.BAD_ARGUMENT, () -> rows.span(1, bad, bad));
+            EXPECT.refuses("span(2, " + bad + ", 1)", Expect.NO_ELEMENT, () -> rows.span(2, bad, 1));
+            EXPECT.refuses("span(2, 1, " + bad + ")", Expect.NO_ELEMENT, () -> rows.span(2, 1, bad));
+        }
+        for (int bad : Expect.outside(0, 1)) {
             EXPECT.refuses("span(" + bad + ", 1, 1)", Expect.NO_ELEMENT, () -> rows.span(bad, 1, 1));
         }
-        EXPECT.refuses("span(2, 0, 0)", Expect.NO_ELEMENT, () -> rows.span(2, 0, 0));
-        EXPECT.is("the spans are as they were", rows.span(1, 1, 1), 11);
+        EXPECT.is("the spans are as they were", rows.span(1, 1, 1), 45);
     }
 
     private static void evenTables() {
-        even("no rows", new int[][] {});
-        even("one row", new int[][] {{11, 13, 81}});
-        even("rows without cells", new int[][] {{}, {}});
-        even("as wide", new int[][] {{11, 12}, {13}, {11, 11, 11}});
-        even("a span in the middle", new int[][] {{11, 31, 11}, {11, 11}, {11, 11}});
-        even("a span at the end", new int[][] {{11, 21}, {11}});
-        even("a row that cells from above fill", new int[][] {{22}, {}});
-        even("spans by turns", new int[][] {{21, 11}, {21}, {11}});
+        Tables.even(EXPECT, "no rows", new int[][] {});
+        Tables.even(EXPECT, "one row", new int[][] {{11, 13, 81}});
+        Tables.even(EXPECT, "rows without cells", new int[][] {{}, {}});
+        Tables.even(EXPECT, "as wide", new int[][] {{11, 12}, {13}, {11, 11, 11}});
+        Tables.even(EXPECT, "a span in the middle", new int[][] {{11, 31, 11}, {11, 11}, {11, 11}});
+        Tables.even(EXPECT, "a span at the end", new int[][] {{11, 21}, {11}});
+        Tables.even(EXPECT, "a row that cells from above fill", new int[][] {{22}, {}});
+        Tables.even(EXPECT, "spans by turns", new int[][] {{21, 11}, {21}, {11}});
         // The last place is all that counts: the one before it stays free.
-        even("a gap ahead of a cell from above", new int[][] {{11, 11, 21}, {11}});
-        even("rows that do not come", new int[][] {{81, 11}, {11}});
-        even("all reach rows that do not come", new int[][] {{31, 11, 81}});
+        Tables.even(EXPECT, "a gap ahead of a cell from above", new int[][] {{11, 11, 21}, {11}});
+        Tables.even(EXPECT, "rows that do not come", new int[][] {{81, 11}, {11}});
+        Tables.even(EXPECT, "all reach rows that do not come", new int[][] {{31, 11, 81}});
     }
 
     private static void unevenTables() {
-        uneven("wider", new int[][] {{11, 11}, {11, 11, 11}});
-        uneven("narrower", new int[][] {{12}, {11}});
-        uneven("the last alone", new int[][] {{11}, {11}, {}});
-        uneven("the first alone", new int[][] {{}, {11}});
-        uneven("two columns, then none", new int[][] {{12}, {}});
-        uneven("a cell too many below a span", new int[][] {{21, 11}, {11, 11}});
-        uneven("a span has ended", new int[][] {{21, 11}, {11}, {11}});
+        Tables.uneven(EXPECT, "wider", new int[][] {{11, 11}, {11, 11, 11}});
+        Tables.uneven(EXPECT, "narrower", new int[][] {{12}, {11}});
+        Tables.uneven(EXPECT, "the last alone", new int[][] {{11}, {11}, {}});
+        Tables.uneven(EXPECT, "the first alone", new int[][] {{}, {11}});
+        Tables.uneven(EXPECT, "two columns, then none", new int[][] {{12}, {}});
+        Tables.uneven(EXPECT, "a cell too many below a span", new int[][] {{21, 11}, {11, 11}});
+        Tables.uneven(EXPECT, "a span has ended", new int[][] {{21, 11}, {11}, {11}});
         // Two columns are asked for where only one is free.
-        uneven("into a cell from above", new int[][] {{11, 21}, {12}});
-        uneven("into a cell from above, all rows as long", new int[][] {{11, 11, 21}, {11, 12}});
-        uneven("between two from above", new int[][] {{21, 11, 21}, {12}});
+        Tables.uneven(EXPECT, "into a cell from above", new int[][] {{11, 21}, {12}});
+        Tables.uneven(EXPECT, "into a cell from above, all rows as long", new int[][] {{11, 11, 21}, {11, 12}});
+        Tables.uneven(EXPECT, "between two from above", new int[][] {{21, 11, 21}, {12}});
     }
 
     private static void whatCounts() {
@@ -87,9 +135,9 @@ public final class Promise13SpanTest {
 
         StructureRows hidden = new StructureRows();
         hidden.element(0, 12);
-        addTable(hidden, 1, new int[][] {{11}, {}});
-        addTable(hidden, 0, new int[][] {{11}, {11}});
-        addTable(hidden, 0, new int[][] {{}, {11}});
+        Tables.add(hidden, 1, new int[][] {{11}, {}});
+        Tables.add(hidden, 0, new int[][] {{11}, {11}});
+        Tables.add(hidden, 0, new int[][] {{}, {11}});
         EXPECT.faultsOfKind("also in artefacts, each by itself", hidden, 5, Expect.row(2, 0), Expect.row(11, 0));
     }
 
@@ -97,33 +145,9 @@ public final class Promise13SpanTest {
         StructureRows rows = new StructureRows();
         int[] wide = new int[55];
         java.util.Arrays.fill(wide, 88);
-        addTable(rows, 0, new int[][] {wide, {}});
+        Tables.add(rows, 0, wide, new int[] {});
         EXPECT.faultsOfKind("440 places", rows, 5);
         rows.element(3 + 55, 9);
         EXPECT.faultsOfKind("one behind them", rows, 5, Expect.row(1, 0));
-    }
-
-    private static void even(String name, int[][] spans) {
-        StructureRows rows = new StructureRows();
-        addTable(rows, 0, spans);
-        EXPECT.faultsOfKind("even: " + name, rows, 5);
-    }
-
-    private static void uneven(String name, int[][] spans) {
-        StructureRows rows = new StructureRows();
-        int table = addTable(rows, 0, spans);
-        EXPECT.faultsOfKind("uneven: " + name, rows, 5, Expect.row(table, 0));
-    }
-
-    /** Each number is a cell: ten times its rows, and its columns. */
-    private static int addTable(StructureRows rows, int parent, int[][] spans) {
-        int table = rows.element(parent, 6);
-        for (int[] row : spans) {
-            int rowElement = rows.element(table, 7);
-            for (int cell : row) {
-                rows.span(rows.element(rowElement, 9), cell / 10, cell % 10);
-            }
-        }
-        return table;
     }
 }
