@@ -1,17 +1,22 @@
 import java.lang.reflect.Constructor;
 import java.lang.reflect.Field;
+import java.lang.reflect.InvocationTargetException;
 import java.lang.reflect.Member;
 import java.lang.reflect.Method;
 import java.lang.reflect.Modifier;
 import java.util.Arrays;
+import java.util.List;
 import java.util.Set;
 import java.util.TreeSet;
+import java.util.function.Consumer;
 
-/** The class has the document's face and no other member that can be seen from outside. */
+/** The class has the document's face, no other member that can be seen from outside, and throws only what it names. */
 public final class FaceTest {
     private static final Expect EXPECT = new Expect();
+    private static final int[] NUMBERS = {Integer.MIN_VALUE, Integer.MIN_VALUE + 1, -20, -2, -1, 0, 1, 2, 3, 6, 7, 8, 9,
+        10, 12, 13, 19, 20, 59, 60, 99, 100, 119, 120, 199, 200, Integer.MAX_VALUE - 1, Integer.MAX_VALUE};
 
-    public static void main(String[] args) {
+    public static void main(String[] args) throws IllegalAccessException {
         Class<?> face = StructureRows.class;
         if (!Modifier.isPublic(face.getModifiers()) || !Modifier.isFinal(face.getModifiers())) {
             EXPECT.complain("the class", "is not public and final");
@@ -34,7 +39,42 @@ public final class FaceTest {
                 "int walk()",
                 "int words(int, boolean) NoSuchElementException")));
         hidesTheRest(face);
+        for (Method method : face.getDeclaredMethods()) {
+            if (Modifier.isPublic(method.getModifiers())) {
+                throwsWhatItNames(method, States::fresh);
+                throwsWhatItNames(method, States::middle);
+                throwsWhatItNames(method, States::full);
+            }
+        }
         EXPECT.end();
+    }
+
+    /** All numbers for all parameters: the call answers, or throws one of the very classes that it names. */
+    private static void throwsWhatItNames(Method method, Consumer<StructureRows> state) throws IllegalAccessException {
+        List<Class<?>> named = Arrays.asList(method.getExceptionTypes());
+        Class<?>[] types = method.getParameterTypes();
+        StructureRows rows = new StructureRows();
+        state.accept(rows);
+        int ways = 1;
+        for (int i = 0; i < types.length; i++) {
+            ways *= NUMBERS.length;
+        }
+        for (int way = 0; way < ways; way++) {
+            Object[] given = new Object[types.length];
+            int left = way;
+            for (int i = 0; i < types.length; i++) {
+                int number = NUMBERS[left % NUMBERS.length];
+                given[i] = types[i] == boolean.class ? (Object) (number < 0) : (Object) number;
+                left /= NUMBERS.length;
+            }
+            try {
+                method.invoke(rows, given);
+            } catch (InvocationTargetException thrown) {
+                if (!named.contains(thrown.getCause().getClass())) {
+                    EXPECT.complain(method.getName() + Arrays.toString(given), "threw " + thrown.getCause());
+                }
+            }
+        }
     }
 
     private static Set<String> publicMethods(Class<?> face) {
